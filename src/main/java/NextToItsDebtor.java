@@ -718,7 +718,7 @@ public final class NextToItsDebtor {
         }
 
         private static long bit(int cell) {
-            return isCell(cell) ? 1L << cell : 0L;
+            return cell >= 0 && cell < COUNT ? 1L << cell : 0L;
         }
 
         private static boolean has(long cells, int cell) {

@@ -82,6 +82,8 @@ final class DebtPromisesTest {
         p.is("nobody", p.x.bare(), 0);
         p.is("garden", p.read("person 9;person 10;person 63;owes 0 2 50;owes 1 2 5;owes 0 1 3;seed 3 3 9 2;seed 0 0 10 2;seed 5 2 9 1"), 9);
         p.is("bare", p.x.bare(), 50 + 5 + 2);
+        p.is("garden", p.read("seed 1 0 10 0;owes 1 0 8"), 2);
+        p.is("to 0, too", p.x.bare(), 50 + 5 + 2 + 8);
         p.refusals("bare");
         p.is("nothing is paid", p.x.debt(0, 2), 50);
     }
@@ -197,6 +199,8 @@ final class DebtPromisesTest {
         p.is("none is up", p.x.guess(0, 1, 1), 0);
         p.x.owes(2, 1, 1);
         p.is("up by another", p.x.guess(0, 1, 1), 0);
+        Probe q = Probe.of("promise 38, seed 0", "person 9;person 63;owes 0 1 1;seed 0 0 0 1");
+        q.is("sure", q.x.guess(0, 1, 1), 1);
     }
 
     private static void tellsIs(Probe p, int n, int... cells) {
@@ -227,6 +231,7 @@ final class DebtPromisesTest {
         tellsIs(p, 3, 0);
         p.row(0, 0, 63, 62, 61, 60, 59, 58, 57, 56, 55, 54);
         tellsIs(p, 9, 48, 51, 54);
+        tellsIs(p, 10, 48, 51, 54);
         p.row(0, 1, 3, 8, 10, 12, 19);
         tellsIs(p, 5, 0, 11);
     }
@@ -244,6 +249,8 @@ final class DebtPromisesTest {
         p.no(NOTHING, "nothing", p.x.tells(2, 0, NONE));
         p.no(BAD, "fewer elements", p.x.tells(0, 5, NONE));
         p.no(STUCK, "64", p.x.tells(0, 2, NONE));
+        p.row(3, 2, 64, 5);
+        p.no(STUCK, "64 ahead", p.x.tells(3, 2, NONE));
         p.x.set(0, 1, 6);
         p.no(STUCK, "-1", p.x.tells(0, 3, NONE));
         p.x.set(0, 2, 7);

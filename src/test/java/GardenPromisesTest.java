@@ -153,7 +153,7 @@ final class GardenPromisesTest {
             {"owes 0 1 0001", 9}, {"owes 0 1 ;", 9}, {"owes 0 1 1 1", 11}, {"person 3;owes 0 3 1", 16},
             {"seed 6 0 0 0", 5}, {"seed 0 10 0 0", 7}, {"seed 0 0 64 0", 9}, {"seed 0 0 0 2", 11}, {"seed 0 0 0", 10},
             {"go 2 0", 3}, {"go 0 64", 5}, {"go 0 7", 5}, {"go 0", 4}, {"go0 1;wall1", 10}, {"go 0 1;wall 0;go 0 0", 19},
-            {"wallopen 5", 0}, {"g o 0 1", 0}, {"owes 0 1 99 9", 12}, {"open 5\n;", 6},
+            {"wallopen 5", 0}, {"wallz 5", 0}, {"ball 5", 0}, {"ho 0 1", 0}, {"z", 0}, {"wall 5z", 6}, {"g o 0 1", 0}, {"owes 0 1 99 9", 12}, {"open 5\n;", 6},
         };
         for (Object[] f : faults) {
             Probe p = Probe.of("promise 15, " + f[0], "person 0;person 1;wall 7");

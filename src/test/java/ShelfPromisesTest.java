@@ -44,8 +44,10 @@ final class ShelfPromisesTest {
         }
         p.is("row without elements", p.x.row(7, 0, 0), 1);
         p.is("holds", p.x.holds(7), 0);
+        p.is("set", p.x.set(0, 0, 5), 1);
         p.is("set", p.x.set(0, 3, 5), 1);
         p.is("row again", p.x.row(0, 0, 4), 1);
+        p.is("element of the new row", p.x.element(0, 0), 0);
         p.is("element of the new row", p.x.element(0, 3), 0);
         p.no(BAD, "row(-1, ..)", p.x.row(-1, 0, 1));
         p.no(BAD, "row(8, ..)", p.x.row(8, 0, 1));
@@ -127,8 +129,11 @@ final class ShelfPromisesTest {
         p.row(0, 3, 5, Long.MIN_VALUE);
         p.is("element", p.x.element(0, 0), 5);
         p.is("element", p.x.element(0, 1), Long.MIN_VALUE);
+        p.row(1, 0, 7);
+        p.row(3, 0, 7);
         p.is("show", p.x.show(1, 0), 1);
-        int[][] none = {{0, -1}, {0, 2}, {0, Integer.MAX_VALUE}, {1, 0}, {2, 0}, {-1, 0}, {8, 0}};
+        p.is("show", p.x.show(3, NONE), 1);
+        int[][] none = {{0, -1}, {0, 2}, {0, Integer.MAX_VALUE}, {1, 0}, {2, 0}, {3, 0}, {-1, 0}, {8, 0}};
         for (int[] at : none) {
             p.is("element(" + at[0] + ", " + at[1] + ")", p.x.element(at[0], at[1]), 0);
         }

@@ -21,6 +21,7 @@ final class TruthPromisesTest {
         promise49And50();
         promise50Shelves();
         promise51();
+        fullGarden();
         Probe.end("TruthPromisesTest");
     }
 
@@ -297,5 +298,46 @@ final class TruthPromisesTest {
         p.no(FULL, "full", p.x.sow(0, 0, 0, 0));
         p.no(BAD, "a garden", p.x.garden(), -20);
         p.no(BAD, "net", p.x.net(3), -1000002);
+    }
+
+    /** Eight people and sixteen seeds, the last of them asked for all that can be asked. */
+    private static void fullGarden() {
+        Probe p = new Probe("a full garden");
+        for (int i = 0; i < 8; i++) {
+            p.x.person(i * 8);
+        }
+        for (int i = 0; i < 16; i++) {
+            p.x.sow(i < 15 ? 0 : 4, 0, 56, 0);
+        }
+        p.x.owes(7, 0, 3);
+        int last = 1 << 15;
+        p.is("up", p.x.up(NONE), 65535);
+        p.is("up by 7", p.x.up(7), 65535);
+        p.is("by", p.x.by(15), 128);
+        p.is("is up", p.x.seedOf(15, 5), 1);
+        p.is("how many", p.x.personOf(7, 4), 16);
+        p.is("worst", p.x.worst(), 7);
+        p.is("poorest", p.x.poorest(), 7);
+        p.is("chain", p.x.chain(7, 0), 1);
+        p.is("ring", p.x.ring(NONE), NONE);
+        p.is("bare", p.x.bare(), 3);
+        p.is("due", p.x.due(7, 0), 3);
+        p.is("mutual", p.x.mutual(), 0);
+        p.is("loud", p.x.loud(7), 9);
+        p.is("calm", p.x.calm(), 55);
+        p.is("bar", p.x.bar(7, 0), 0);
+        p.is("together", p.x.together(1), 127);
+        p.is("may", p.x.guess(7, 0, 0), 1);
+        p.is("not sure, for 6 is near", p.x.guess(7, 0, 1), 0);
+        p.is("idle", p.x.idle(), 0);
+        p.x.owes(7, 0, 0);
+        p.x.owes(6, 5, 1);
+        p.is("the last alone", p.x.up(NONE), last);
+        p.is("idle", p.x.idle(), last - 1);
+        p.is("bare", p.x.bare(), NONE);
+        p.is("who owe", p.x.status(5), 1);
+        p.is("strike", p.x.strike(), 0);
+        p.is("days", p.x.days(1) > 0 ? 1 : 0, 1);
+        p.refusals("all of it");
     }
 }
