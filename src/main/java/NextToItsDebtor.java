@@ -19,8 +19,7 @@ public final class NextToItsDebtor {
     private final Garden trial = new Garden();
     private boolean isKept = false;
     private final Shelf[] shelves = new Shelf[MOST_SHELVES];
-    private final Tape tape = new Tape();
-    private final Reader reader = new Reader(tape);
+    private final Reader reader = new Reader();
     private final Ways ways = new Ways();
     private final Ring round = new Ring();
     private final Cover cover = new Cover();
@@ -181,23 +180,23 @@ public final class NextToItsDebtor {
         if (letter < 0 || letter > 255) {
             return refuse(BAD);
         }
-        if (tape.isFull()) {
+        if (reader.tape.isFull()) {
             return refuse(FULL);
         }
-        tape.add(letter);
-        return tape.size;
+        reader.tape.add(letter);
+        return reader.tape.size;
     }
 
     public int wipe() {
-        int ahead = tape.size;
-        tape.size = 0;
+        int ahead = reader.tape.size;
+        reader.tape.size = 0;
         return ahead;
     }
 
     public int garden() {
         trial.become(now);
         int read = reader.readAll(trial);
-        tape.size = 0;
+        reader.tape.size = 0;
         if (read < 0) {
             refuse(BAD);
             return read;
@@ -670,7 +669,7 @@ public final class NextToItsDebtor {
             case 5:
                 return now.debtors();
             case 6:
-                return tape.size;
+                return reader.tape.size;
             case 7:
                 return now.seedness;
             case 8:
@@ -1430,7 +1429,7 @@ public final class NextToItsDebtor {
         }
     }
 
-    /** Reads a garden from a tape; a token at fault is always the one read last. */
+    /** Reads a garden from its tape; a token at fault is always the one read last. */
     private static final class Reader {
         private static final int FAULT_ZERO = -20;
         private static final int MOST_DIGITS = 3;
@@ -1441,14 +1440,10 @@ public final class NextToItsDebtor {
         private static final int SIGN = 3;
         private static final int ODD = 4;
 
-        private final Tape source;
+        private final Tape tape = new Tape();
         private int token = END;
         private int start = 0;
         private int after = 0;
-
-        private Reader(Tape tape) {
-            source = tape;
-        }
 
         /** How many statements came to a garden, or FAULT_ZERO less the fault (the garden is spoilt then). */
         private int readAll(Garden into) {
@@ -1470,13 +1465,13 @@ public final class NextToItsDebtor {
 
         private void advance() {
             start = after;
-            while (start < source.size && source.at(start) == ' ') {
+            while (start < tape.size && tape.at(start) == ' ') {
                 start++;
             }
-            token = tokenOf(source.at(start));
+            token = tokenOf(tape.at(start));
             after = token == END ? start : start + 1;
             if (token == WORD || token == NUMBER) {
-                while (after < source.size && tokenOf(source.at(after)) == token) {
+                while (after < tape.size && tokenOf(tape.at(after)) == token) {
                     after++;
                 }
             }
@@ -1520,7 +1515,7 @@ public final class NextToItsDebtor {
                 return false;
             }
             for (int i = 0; i < word.length(); i++) {
-                if (source.at(start + i) != word.charAt(i)) {
+                if (tape.at(start + i) != word.charAt(i)) {
                     return false;
                 }
             }
@@ -1535,7 +1530,7 @@ public final class NextToItsDebtor {
             }
             int value = 0;
             for (int i = start; i < after; i++) {
-                value = 10 * value + source.at(i) - '0';
+                value = 10 * value + tape.at(i) - '0';
             }
             return value < below ? value : NONE;
         }

@@ -43,6 +43,7 @@ final class LanguageTest {
         for (Class<?> c : classes) {
             checkMembers(c);
         }
+        checkCalls(classes);
         faults.forEach(f -> System.out.println("against LANGUAGE.md: " + f));
         System.out.println("LanguageTest: " + checks + " checks, " + faults.size() + " faults");
         System.exit(faults.isEmpty() ? 0 : 1);
@@ -136,7 +137,24 @@ final class LanguageTest {
             check(!m.isSynthetic(), m + " is written out");
         }
         for (Constructor<?> k : c.getDeclaredConstructors()) {
-            check(k.getParameterCount() <= 7, k + " takes seven at most");
+            check(k.getParameterCount() == 0, k + " takes nothing, so nothing of an object in the making is handed out");
         }
+    }
+
+    private static void checkCalls(List<Class<?>> classes) throws Exception {
+        LanguageCalls calls = LanguageCalls.of(classes);
+        if (calls == null) {
+            System.out.println("LanguageTest: without javap it isn't looked up how deep calls go");
+            return;
+        }
+        for (String method : calls.methods()) {
+            List<String> chain = calls.longest(method);
+            check(chain.size() <= 8, "calls go at most eight deep: " + chain);
+            check(!calls.comesBack(method), method + " comes back to itself by no other one");
+            check(method.endsWith("init>") || !calls.makers().contains(method), method + " makes nothing: only constructors do");
+        }
+        // Were nothing found, nothing above would have been looked at.
+        check(calls.methods().size() > 100 && calls.makers().contains("NextToItsDebtor.<init>"), "javap's words were read");
+        check(calls.longest("NextToItsDebtor.garden").size() > 5, "javap's calls were read");
     }
 }
